@@ -729,6 +729,39 @@ public final class CopyPollsPromises {
         due(20, "what 4", x.about(0, 4), NONE);
     }
 
+    /** As many stores and files as there can be: the last ones are there, and none beyond them. */
+    private static void fullHouse() {
+        CopyPolls x = house(5, 10);
+        for (int k = 0; k < 40; k++) {
+            put(x, 7, k, 1);
+        }
+        for (int s = 0; s < 10; s++) {
+            x.rate(s, 1, 2);
+        }
+        due(21, "each store's load", loads(x, 10), "20".repeat(10));
+        due(19, "the last file", bytes(x, 9, 39), "[39, 1]");
+        due(6, "the last file", x.alter(9, 39, 0, 200), 39);
+        due(14, "the last file", x.stale(9, 39), 1);
+        due(13, "the last file", x.mend(7), 1);
+        due(8, "the last file", x.lose(9, 39), 1);
+        due(15, "the last file", x.fill(9), 1);
+        due(16, "the last file", x.move(39, 9, 0), 1);
+        due(20, "the last file", x.about(39, 3), 2);
+        due(11, "the last file", x.majority(39), 1);
+        due(12, "the last file", x.digest(), ((7 * 31 + 39) * 31 + 1) ^ 2);
+        due(18, "the last file", odds(x, 39), "1/32");
+        due(19, "beyond", x.at(9, 40, 0), NONE);
+        due(6, "beyond", x.alter(9, 40, 0, 1), NONE);
+        due(14, "beyond", x.stale(9, 40), NONE);
+        due(8, "beyond", x.lose(10, 39), NONE);
+        due(16, "beyond", x.move(40, 9, 0), NONE);
+        due(20, "beyond", x.about(40, 0), NONE);
+        due(11, "beyond", x.majority(40), NONE);
+        due(18, "beyond", odds(x, 40), "-1/-1");
+        due(15, "beyond", x.fill(10), NONE);
+        due(21, "beyond", x.load(10), NONE);
+    }
+
     private static void load() {
         CopyPolls x = house(2, 3);
         due(21, "at first", loads(x, 3), "000");
@@ -769,6 +802,7 @@ public final class CopyPollsPromises {
         at();
         about();
         load();
+        fullHouse();
         System.out.println(wrong == 0 ? "every promise is kept" : wrong + " answers are not as due");
         if (wrong != 0) {
             System.exit(1);
