@@ -9,10 +9,7 @@ abstract class Sentences {
     static final int LEAST = Integer.MIN_VALUE;
     static final int MOST = Integer.MAX_VALUE;
 
-    /** Far above what a test needs: a call that does not end is a fault, and must not hold up the rest. */
-    private static final long MOST_MILLISECONDS = 120_000;
-
-    private static volatile String sentence = "";
+    private static String sentence = "";
     private static int sentences = 0;
     private static int checks = 0;
     private static int wrong = 0;
@@ -22,19 +19,7 @@ abstract class Sentences {
     }
 
     static {
-        Thread watch = new Thread(Sentences::stopInTime);
-        watch.setDaemon(true);
-        watch.start();
-    }
-
-    private static void stopInTime() {
-        try {
-            Thread.sleep(MOST_MILLISECONDS);
-        } catch (InterruptedException e) {
-            return;
-        }
-        System.out.println(sentence + ": a call does not end");
-        Runtime.getRuntime().halt(1);
+        Watch.start();
     }
 
     /** The checks that follow belong to this sentence; one without a check is no test. */

@@ -486,18 +486,23 @@ public final class BoundsOfPromises extends Sentences {
         House x = House.of(3, 3);
         x.file(0, 1);
         x.file(0, 2);
+        x.file(0, 3);
         x.majority(0);
         due("of file 0", x.digest(), digestOfOne(1));
         due("told once more", x.digest(), digestOfOne(1));
         x.majority(1);
         due("of file 1", x.digest(), digestOfOne(2));
-        x.alter(0, 0, 0, 9);
-        x.stale(0, 0);
+        for (int store = 0; store < 3; store++) {
+            x.rate(store, 1, 2);
+        }
+        x.alter(0, 2, 0, 9);
+        x.stale(0, 2);
+        x.odds(2, 0);
         x.poll(0, 0L);
         x.mend(0);
-        x.lose(0, 0);
+        x.lose(0, 2);
         x.fill(0);
-        x.about(0, 2);
+        x.about(2, 2);
         due("other calls find none", x.digest(), digestOfOne(2));
         x.alter(0, 1, 0, 7);
         x.alter(1, 1, 0, 7);

@@ -449,6 +449,7 @@ public final class CopyPollsModel {
     }
 
     public static void main(String[] args) {
+        Watch.start();
         for (int run = 0; run < RUNS; run++) {
             run(run);
         }

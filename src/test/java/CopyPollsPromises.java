@@ -781,6 +781,7 @@ public final class CopyPollsPromises {
     }
 
     public static void main(String[] args) {
+        Watch.start();
         newObject();
         store();
         octet();
